@@ -172,9 +172,6 @@ public final class QuotaAlmshouse {
 
         void leave() {
             gone = true;
-            snapshots = 0;
-            waiting = 0;
-            credit = 0;
             total.end();
             written.end();
             for (int kind = 0; kind < KINDS; kind++) {
