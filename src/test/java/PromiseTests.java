@@ -1,74 +1,5 @@
-import java.util.NoSuchElementException;
-
 /** For each promise of the document: ordinary inputs, the edges that it names, and wrong inputs. */
-public final class PromiseTests {
-    private interface Call {
-        void run();
-    }
-
-    private static final Class<?> ARGUMENT = IllegalArgumentException.class;
-    private static final Class<?> INDEX = IndexOutOfBoundsException.class;
-    private static final Class<?> ELEMENT = NoSuchElementException.class;
-    private static final Class<?> STATE = IllegalStateException.class;
-    private static final Class<?> BOUND = UnsupportedOperationException.class;
-
-    private static int checks = 0;
-    private static int wrong = 0;
-
-    private static void is(String what, Object got, Object due) {
-        checks++;
-        if (!got.equals(due)) {
-            wrong++;
-            System.out.println(what + ": " + got + ", due is " + due);
-        }
-    }
-
-    private static void refused(String what, Class<?> due, Call call) {
-        Object got = "no exception";
-        try {
-            call.run();
-        } catch (RuntimeException e) {
-            got = e.getClass();
-            String thrower = e.getStackTrace()[0].getClassName();
-            is(what + ", thrown by", thrower, "QuotaAlmshouse");
-        }
-        is(what, got, due);
-    }
-
-    private static void refusedFor(QuotaAlmshouse x, String what, char reason, Call call) {
-        refused(what, BOUND, call);
-        is(what + ", reason", x.reason(), reason);
-    }
-
-    private static QuotaAlmshouse withTenants(int tenants) {
-        QuotaAlmshouse x = new QuotaAlmshouse();
-        for (int i = 0; i < tenants; i++) {
-            x.addTenant(1, 0);
-        }
-        return x;
-    }
-
-    /** Two tenants and the directories 1 in the top, 2 in 1, 3 in the top. */
-    private static QuotaAlmshouse house() {
-        QuotaAlmshouse x = withTenants(2);
-        x.addDirectory(0);
-        x.addDirectory(1);
-        x.addDirectory(0);
-        return x;
-    }
-
-    private static void pass(QuotaAlmshouse x, int days) {
-        for (int i = 0; i < days; i++) {
-            x.pass();
-        }
-    }
-
-    private static void fillNodes(QuotaAlmshouse x, int nodes) {
-        for (int i = nodes; i < 60; i++) {
-            x.addDirectory(0);
-        }
-    }
-
+public final class PromiseTests extends Checks {
     private static void promise1NewObject() {
         QuotaAlmshouse x = new QuotaAlmshouse();
         is("1 below", x.below(0), 0);
@@ -268,8 +199,6 @@ public final class PromiseTests {
         refused("8 kind", ARGUMENT, () -> x.graceLeft('k', 9, 5));
         refused("8 tenant", INDEX, () -> x.graceLeft('t', 2, 0));
         refused("8 directory", INDEX, () -> x.graceLeft('d', 4, 0));
-        promise8Drift();
-        promise8Acts();
     }
 
     private static void promise8Drift() {
@@ -310,10 +239,6 @@ public final class PromiseTests {
         x.setBound('d', 3, 0, 0, 99, 7);
         x.lose('d', 3, 0, 1);
         return x;
-    }
-
-    private interface Act {
-        void on(QuotaAlmshouse x);
     }
 
     private static void promise8Acts() {
@@ -578,7 +503,6 @@ public final class PromiseTests {
         is("15 sound", x.isSound(), true);
         pass(x, 5);
         refused("15 gone", ELEMENT, () -> x.move(6, 1));
-        promise15Drift();
     }
 
     private static void promise15Drift() {
@@ -632,7 +556,6 @@ public final class PromiseTests {
         is("16 d and w do not become greater", x.give(1, 0, 0), 3);
         x.merge(1, 0);
         refused("16 gone", INDEX, () -> x.give(0, 0, 1));
-        promise16Held();
     }
 
     private static void promise16Held() {
@@ -795,8 +718,6 @@ public final class PromiseTests {
         refused("21 none", INDEX, () -> x.merge(5, 5));
         refused("21 same", ARGUMENT, () -> x.merge(1, 1));
         is("21 number is not used again", x.addTenant(1, 1), 2);
-        promise21Bounds();
-        promise21Requests();
     }
 
     private static void promise21Bounds() {
@@ -1137,45 +1058,7 @@ public final class PromiseTests {
         is("35 what was lost is gone", x.isSound(), true);
     }
 
-    public static void main(String[] args) {
-        promise1NewObject();
-        promise2AddTenant();
-        promise3AddDirectory();
-        promise4SetBound();
-        promise5Charge();
-        promise6ChargeAnew();
-        promise7Reason();
-        promise8GraceLeft();
-        promise9Make();
-        promise10Write();
-        promise11MakeReserved();
-        promise12Reserve();
-        promise13GiveUp();
-        promise14Pack();
-        promise15Move();
-        promise16Give();
-        promise17Delete();
-        promise18Restore();
-        promise19Snapshot();
-        promise20DropSnapshot();
-        promise21Merge();
-        promise22SizeOf();
-        promise23OwnerOf();
-        promise24ParentOf();
-        promise25Below();
-        promise26Pass();
-        promise27Request();
-        promise28Round();
-        promise29Credits();
-        promise30Served();
-        promise31Lose();
-        promise32Audit();
-        promise33Breaches();
-        promise34Fairness();
-        promise35IsSound();
-        System.out.println(checks + " checks of promises, " + wrong + " wrong");
-        if (wrong != 0) {
-            System.exit(1);
-        }
+    public static void main(String[] args) throws Exception {
+        runAll(PromiseTests.class);
     }
 }
