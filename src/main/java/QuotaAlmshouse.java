@@ -679,17 +679,16 @@ public final class QuotaAlmshouse {
 
     public float fairness()
             throws NoSuchElementException {
-        long least = Long.MAX_VALUE;
         long greatest = 0;
         for (int i = 0; i < tenants.size(); i++) {
-            Tenant tenant = tenants.get(i);
-            if (!tenant.gone) {
-                least = Math.min(least, tenant.servedCosts);
-                greatest = Math.max(greatest, tenant.servedCosts);
-            }
+            greatest = tenants.get(i).gone ? greatest : Math.max(greatest, tenants.get(i).servedCosts);
         }
         if (greatest == 0) {
             throw new NoSuchElementException("there are no tenants, or nothing was served");
+        }
+        long least = greatest;
+        for (int i = 0; i < tenants.size(); i++) {
+            least = tenants.get(i).gone ? least : Math.min(least, tenants.get(i).servedCosts);
         }
         return (float) least / (float) greatest;
     }

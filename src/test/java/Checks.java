@@ -98,8 +98,24 @@ abstract class Checks {
         }
     }
 
+    /** Fails the run if it has not ended after so many seconds, so that a call that does not end is told too. */
+    static void endWithin(int seconds) {
+        Thread watch = new Thread(() -> {
+            try {
+                Thread.sleep(seconds * 1000L);
+            } catch (InterruptedException e) {
+                return;
+            }
+            System.out.println("not ended after " + seconds + " seconds");
+            Runtime.getRuntime().halt(1);
+        });
+        watch.setDaemon(true);
+        watch.start();
+    }
+
     /** Runs each test of the class: its static methods that take nothing and answer nothing. */
     static void runAll(Class<?> tests) throws Exception {
+        endWithin(120);
         Method[] methods = tests.getDeclaredMethods();
         Arrays.sort(methods, Comparator.comparing(Method::getName));
         int count = 0;

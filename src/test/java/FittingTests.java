@@ -133,6 +133,15 @@ public final class FittingTests extends Checks {
             x.make(1, 3, 1, 5);
             x.snapshot(1, 0);
         }, x -> x.give(0, 1, 1)),
+        new Case("give several of a kind, some of which are held", x -> {
+            x.make(0, 2, 1, 10);
+            x.make(1, 3, 1, 5);
+            x.make(1, 3, 0, 5);
+            x.snapshot(1, 0);
+            x.make(0, 2, 1, 20);
+            x.make(0, 1, 0, 40);
+            x.make(0, 0, 0, 80);
+        }, x -> x.give(0, 0, 1)),
         new Case("give nothing", x -> x.make(0, 2, 1, 10), x -> x.give(0, 3, 1)),
         new Case("restore", x -> {
             x.make(0, 2, 1, 10);
@@ -150,7 +159,7 @@ public final class FittingTests extends Checks {
     private static void theChargesThatBecomeGreater() {
         String[] due = {"t0 w0 k01 d0 d1 d2", "t1 w1 k13 d0", "t0 w0 k01 d0 d1 d2", "w0", "w0", "t0 w0",
             "t0 w0 k01 d0 d1 d2", "t0 w0 k01 d0 d1 d2", "w0", "w0", "t0 k01 d0 d1 d2", "d3", "d3", "d2", "", "",
-            "t1 k11 k12", "k11", "", "d1 d2 d0", "t1", ""};
+            "t1 k11 k12", "k11", "t1 k10 k11", "", "d1 d2 d0", "t1", ""};
         for (int i = 0; i < CASES.length; i++) {
             StringBuilder raised = new StringBuilder();
             CASES[i].forEachRaised((what, c, charged, before, after) -> raised.append(charged.which)

@@ -92,7 +92,7 @@ public final class LanguageTests {
     private static void checkText() throws IOException {
         String text = Files.readString(SOURCE);
         Matcher bad = Pattern.compile("->|::|\\bfinally\\b|\\bsynchronized\\b|\\bassert\\b|\\bcatch\\b|\\bvar\\b"
-                + "|\\bpackage\\b|Exact\\(|\\bSystem\\.(?!arraycopy)|@\\w|\\bdouble\\b").matcher(text);
+                + "|\\bpackage\\b|Exact\\(|\\bSystem\\.(?!arraycopy)|@\\w|\\bdouble\\b|_VALUE\\b").matcher(text);
         while (bad.find()) {
             need(false, "the text has " + bad.group());
         }

@@ -279,6 +279,7 @@ public final class RandomRunTests {
 
     public static void main(String[] args) {
         int runs = args.length > 0 ? Integer.parseInt(args[0]) : 1500;
+        Checks.endWithin(runs);
         int wrong = 0;
         for (int seed = 0; seed < runs && wrong < 3; seed++) {
             RandomRunTests run = new RandomRunTests(seed);

@@ -42,8 +42,8 @@ public final class RefusalTests extends Checks {
         x.snapshot(1, 1);
         x.dropSnapshot(x.snapshot(0, 2));
         x.setBound('k', 0, 1, 20, 60, 9);
-        x.lose('d', 3, 0, 4);
-        x.lose('k', 1, 2, -3);
+        x.setBound('k', 1, 2, 19, 60, 5);
+        x.setBound('d', 3, 0, 0, 60, 6);
         x.request(0, 15);
         x.request(0, 99);
         x.request(1, 11);
@@ -52,6 +52,9 @@ public final class RefusalTests extends Checks {
         x.merge(2, 1);
         x.pack(6);
         x.write(5, 12);
+        // The next act that looks at graces, and only this, lets one begin and another one end.
+        x.lose('d', 3, 0, 4);
+        x.lose('k', 1, 2, -3);
         return x;
     }
 
@@ -196,6 +199,12 @@ public final class RefusalTests extends Checks {
         is("the bin", x.restore(7), 3);
         is("portraits show what is changed", portrait(lived()).equals(portrait(x)), false);
         is("portraits of twins are alike", portrait(lived()), portrait(lived()));
+        QuotaAlmshouse y = lived();
+        refused("a grace has not begun", ELEMENT, () -> y.graceLeft('d', 3, 0));
+        is("a grace has not ended", y.graceLeft('k', 1, 2), 5);
+        y.dropSnapshot(y.snapshot(0, 3));
+        is("it begins with an act", y.graceLeft('d', 3, 0), 6);
+        refused("it ends with an act", ELEMENT, () -> y.graceLeft('k', 1, 2));
     }
 
     private static void addTenant() {

@@ -722,6 +722,38 @@ public final class TermsTests extends Checks {
         refusedFor(x, "the rest", 't', () -> x.give(0, 0, 1));
     }
 
+    /** What the giver's snapshot has it goes on holding; what the other one's has is not charged to this anew. */
+    private static void givenWhatOneOfBothHolds() {
+        for (int maker = 0; maker < 2; maker++) {
+            QuotaAlmshouse x = house();
+            x.make(0, 2, 1, 10);
+            x.snapshot(maker, 0);
+            x.make(0, 2, 1, 5);
+            is("given", x.give(0, 0, 1), 2);
+            is("the giver", x.charge('t', 0, 0), maker == 0 ? 10 : 0);
+            is("the other", x.charge('t', 1, 0), 15);
+            is("sound", x.isSound(), true);
+            is("back", x.give(1, 0, 0), 2);
+            is("the first one", x.charge('t', 0, 0), 15);
+            is("the second one", x.charge('t', 1, 0), maker == 1 ? 10 : 0);
+            is("sound again", x.isSound(), true);
+        }
+    }
+
+    /** One that was refused leaves nothing behind that would hinder another one. */
+    private static void givenBehindARefusal() {
+        QuotaAlmshouse x = house();
+        for (int kind = 0; kind < 4; kind++) {
+            x.make(0, 2, kind, 10);
+            x.make(0, 3, kind, 6);
+            x.setBound('k', 1, kind, 10, 10, 0);
+        }
+        refusedFor(x, "all", 'k', () -> x.give(0, 0, 1));
+        refusedFor(x, "all again", 'k', () -> x.give(0, 0, 1));
+        is("some", x.give(0, 2, 1), 4);
+        refusedFor(x, "the others", 'k', () -> x.give(0, 3, 1));
+    }
+
     /** What both hold is charged for each once, before and after. */
     private static void givenWhatSnapshotsHold() {
         QuotaAlmshouse x = house();
